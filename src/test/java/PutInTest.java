@@ -107,46 +107,27 @@ public final class PutInTest {
         x = Due.table(new int[] {10, 10}, new int[] {3, 5});
         x.mend(0, 5, 3);
         x.mend(0, 4, 30);
-        // The lesser of unlike ones gives more; of like ones guest 0 pays twice and gives 0;
-        // but by (0, 10) guest 1 has no lesser cost by 0, and guest 0 none by 10 either.
-        int[] want = new RestsByHand(10, 30).rests();
-        DUE.is("P13 by hand", x.rests(-1), want[0]);
-        DUE.is("P13 by hand", x.rests(0), want[1]);
-        DUE.is("P13 by hand", x.rests(1), want[2]);
+        // (0, 0): guest 0 would give 10. (0, 10): guest 1 would give 0, for 0 is least of like
+        // ones. (10, 0): guest 1 would give 10. (10, 10): guest 0 would give 0: 20, not 30.
+        DUE.is("P13 double: none", x.rests(-1), 0);
+        DUE.is("P13 double: none", x.rests(1), LeastPays.NOT);
         x = Due.table(new int[] {40, 60, 30}, new int[] {20, 10, 10});
         x.mend(0, 5, 2);
         DUE.is("P13 none", x.rests(-1), 0);
         DUE.is("P13 none", x.rests(2), LeastPays.NOT);
         x.mend(0, 5, 1);
-        DUE.is("P13 guest 0's sum counts first", x.rests(0), 20);
+        DUE.is("P13 guest 0's", x.rests(0), 20);
         DUE.is("P13 guest 1's", x.rests(1), 20);
         DUE.is("P13 guest 2's", x.rests(2), 10);
         DUE.is("P13 gifts stay", x.of(0, 13), 40);
-    }
-
-    /** Two guests, rule DOUBLE, sums 0 and top. */
-    private record RestsByHand(int top, int bill) {
-        int cost(int mine, int others, boolean firstOfLike) {
-            boolean least = mine < others || (mine == others && firstOfLike);
-            return mine + (least ? Math.max(0, bill - mine - others) + mine : 0);
-        }
-
-        int[] rests() {
-            int found = 0;
-            int[] first = {0, LeastPays.NOT, LeastPays.NOT};
-            for (int a = 0; a <= top; a += top) {
-                for (int b = 0; b <= top; b += top) {
-                    boolean rest = cost(top - a, b, true) >= cost(a, b, true)
-                        && cost(top - b, a, false) >= cost(b, a, false);
-                    if (rest && found++ == 0) {
-                        first[1] = a;
-                        first[2] = b;
-                    }
-                }
-            }
-            first[0] = found;
-            return first;
-        }
+        // 0, 8, 0 and 8, 0, 0 are rests: guest 0's sum counts first.
+        x = Due.table(new int[] {35, 35, 9}, new int[] {0, 0, 0});
+        x.mend(0, 4, 24);
+        x.mend(0, 5, 2);
+        x.mend(0, 6, 8);
+        DUE.is("P13 two", x.rests(-1), 2);
+        DUE.is("P13 guest 0's sum counts first", x.rests(0), 0);
+        DUE.is("P13 guest 1's sum then", x.rests(1), 8);
     }
 
     private static void tooManyWays() {
@@ -173,8 +154,10 @@ public final class PutInTest {
         DUE.is("P14 guest -2", x.turns(-2), LeastPays.BAD);
         x = Due.table(new int[] {40, 40}, new int[] {40, 40});
         x.mend(0, 5, 1);
-        // Guest 0 gives 20 (its cost 20); 1 gives 30 (0 is least); 0 cannot mend 30 but by 40.
-        DUE.is("P14 how many", x.turns(-1), TurnsByHand.changes());
+        // 0 and 0, 10 and 10, 20 and 20, then 30: guest 1 with 20 pays 30 and cannot mend it.
+        DUE.is("P14 how many", x.turns(-1), 7);
+        DUE.is("P14 then", x.turns(0), 30);
+        DUE.is("P14 then", x.turns(1), 20);
         x = Due.table(new int[] {40, 60, 30}, new int[] {20, 10, 10});
         x.mend(0, 5, 2);
         DUE.is("P14 never", x.turns(-1), LeastPays.NOT);
@@ -187,44 +170,16 @@ public final class PutInTest {
         DUE.is("P14 then", x.turns(1), 20);
     }
 
-    /** Two guests with 40, rule FIRST, bill 60, both at 40 first; worked out apart. */
-    private static final class TurnsByHand {
-        static int cost(int who, int a, int b) {
-            int least = b < a ? 1 : 0;
-            return (who == 0 ? a : b) + (who == least ? Math.max(0, 60 - a - b) : 0);
-        }
-
-        static int changes() {
-            int[] at = {40, 40};
-            int changes = 0;
-            for (int quiet = 0, who = 0; quiet < 2 && changes <= 60; who = 1 - who) {
-                int best = at[who];
-                int bestCost = cost(who, at[0], at[1]);
-                for (int sum = 0; sum <= 40; sum += 10) {
-                    int cost = who == 0 ? cost(0, sum, at[1]) : cost(1, at[0], sum);
-                    if (cost < bestCost) {
-                        bestCost = cost;
-                        best = sum;
-                    }
-                }
-                quiet = best == at[who] ? quiet + 1 : 0;
-                changes += best == at[who] ? 0 : 1;
-                at[who] = best;
-            }
-            return changes > 60 ? LeastPays.NOT : changes;
-        }
-    }
-
     private static void agree() {
         LeastPays x = Due.table(new int[] {40, 40, 40}, new int[] {20, 15, 10});
         x.mend(0, 5, 1);
-        // 0 and 1 give 20 each: 2 with its 10 pays the rest. Less together: 10 for 0? then 0 is
-        // least of like ones; 11 is no sum. 20 and 20 is 40, 0 and 10 make 60 - 10 = 50.
+        // By 20 each guest 2 with its 10 is least and pays the rest; by 10 of guest 0, the first
+        // of like ones, the two pay 50.
         DUE.is("P15 together", x.agree(1, 0), 40);
         DUE.is("P15 lesser", x.agree(1, 1), 20);
         DUE.is("P15 other", x.agree(1, 2), 20);
         DUE.is("P15 victim", x.agree(1, 3), 2);
-        // 1 and 2 leave it to nobody: least of all is 0 only if both give more than 20.
+        // Guest 0 with its 20 is least only if both give more: 1 and 2 pay 40 in any case.
         DUE.is("P15 together", x.agree(12, 0), 40);
         DUE.is("P15 lesser", x.agree(12, 1), 0);
         DUE.is("P15 other", x.agree(12, 2), 0);
@@ -236,7 +191,7 @@ public final class PutInTest {
         for (int pq : bad) {
             DUE.is("P15 agree(" + pq + ")", x.agree(pq, 0), LeastPays.VOID);
         }
-        // ALIKE: 3 lacks 1 after 29 and 30: the victim must pay more than 0.
+        // ALIKE: 2 coins lack, so that guests 2 and 3 pay nothing though they are least too.
         x = Due.table(new int[] {0, 0, 0, 0}, new int[] {0, 0, 0, 0});
         x.mend(0, 4, 2);
         DUE.is("P15 alike together", x.agree(23, 0), 0);
