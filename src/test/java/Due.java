@@ -1,6 +1,13 @@
+import java.util.function.Supplier;
+
 /** Counts answers that are not the ones due, and ends the program with 1 if there was one. */
 final class Due {
     static final long NO_NUMBER = Long.MIN_VALUE;
+
+    /** A call of which one number is left open. */
+    interface Call {
+        long with(LeastPays x, int v);
+    }
 
     private int asked;
     private int wrong;
@@ -15,6 +22,18 @@ final class Due {
 
     void holds(String what, boolean so) {
         is(what, so ? 1 : 0, 1);
+    }
+
+    /** Asks at both ends of a told range, beside them and far off, each on an object of its own. */
+    void range(String what, Supplier<LeastPays> made, int least, int most, long refusal, Call call) {
+        int[] within = {least, most};
+        for (int v : within) {
+            holds(what + ": " + v + " is within " + least + " .. " + most, call.with(made.get(), v) != refusal);
+        }
+        long[] beside = {least - 1L, most + 1L, least - 256L, most + 256L, Integer.MIN_VALUE, Integer.MAX_VALUE};
+        for (long v : beside) {
+            is(what + ": " + v + " is beside " + least + " .. " + most, call.with(made.get(), (int) v), refusal);
+        }
     }
 
     /** The whole text comes to the tape and becomes the law: the answer of law(). */
