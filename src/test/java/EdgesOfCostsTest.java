@@ -139,6 +139,8 @@ public final class EdgesOfCostsTest {
             chest("RULE " + rule + ", 21 over", table(16, rule, 20, 9, 8), rule == 4 ? 1 : 21 + again);
             chest("RULE " + rule + ", all over", table(0, rule, 20, 9, 8), rule == 4 ? 17 : 37 + again);
             chest("RULE " + rule + ", GIFTS of 0", table(0, rule, 0, 0), 0);
+            chest("RULE " + rule + ", one alone, something lacks", table(60, rule, 20), rule == 3 ? 20 : 0);
+            chest("RULE " + rule + ", one alone, over", table(7, rule, 20), rule == 4 ? 0 : rule == 3 ? 33 : 13);
         }
     }
 
